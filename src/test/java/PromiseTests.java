@@ -29,6 +29,7 @@ public final class PromiseTests {
         termsOfWholes();
         termLike();
         termsOfRows();
+        nothingLeftOfEarlierTries();
         termsThatChoose();
         partsInOrder();
         steps();
@@ -358,28 +359,56 @@ public final class PromiseTests {
             HOLDS);
     }
 
+    /** What comes to a row is asked for its length: a row as a body would throw KIND by itself. */
+    private static int kindOutcome(Maker m, int what, int... parts) {
+        int made = m.of(what, parts);
+        return m.outcome(what >= ZEROS && what <= TURNED ? m.of(LENGTH, made) : made);
+    }
+
     private static void rowKinds() {
         for (int what : new int[] {AT, LENGTH, PUT, JOIN, PART, SORTED, TURNED, SUM}) {
             Maker m = new Maker();
             int b = what == JOIN ? m.row() : m.whole(0);
-            due("a whole as a of " + what, m.outcome(m.of(what, m.whole(0), b, m.whole(0))), KIND);
-            due("nothing as a of " + what, m.outcome(m.of(what, m.nothing(), b, m.whole(0))), NULL);
+            due("a whole as a of " + what, kindOutcome(m, what, m.whole(0), b, m.whole(0)), KIND);
+            due("nothing as a of " + what, kindOutcome(m, what, m.nothing(), b, m.whole(0)), NULL);
         }
         for (int what : new int[] {AT, PUT, JOIN, PART}) {
             Maker m = new Maker();
             int b = what == JOIN ? m.whole(0) : m.row(0);
-            due("the other kind as b of " + what, m.outcome(m.of(what, m.row(0), b, m.whole(0))), KIND);
-            due("nothing as b of " + what, m.outcome(m.of(what, m.row(0), m.nothing(), m.whole(0))), NULL);
+            due("the other kind as b of " + what, kindOutcome(m, what, m.row(0), b, m.whole(0)), KIND);
+            due("nothing as b of " + what, kindOutcome(m, what, m.row(0), m.nothing(), m.whole(0)), NULL);
         }
         for (int what : new int[] {PUT, PART}) {
             Maker m = new Maker();
-            due("a row as c of " + what, m.outcome(m.of(what, m.row(0), m.whole(0), m.row())), KIND);
-            due("nothing as c of " + what, m.outcome(m.of(what, m.row(0), m.whole(0), m.nothing())), NULL);
-            due("a kind ahead of a place of " + what, m.outcome(m.of(what, m.row(0), m.whole(9), m.row())), KIND);
+            due("a row as c of " + what, kindOutcome(m, what, m.row(0), m.whole(0), m.row()), KIND);
+            due("nothing as c of " + what, kindOutcome(m, what, m.row(0), m.whole(0), m.nothing()), NULL);
+            due("a kind ahead of a place of " + what, kindOutcome(m, what, m.row(0), m.whole(9), m.row()), KIND);
         }
         Maker m = new Maker();
-        due("zeros of a row", m.outcome(m.of(ZEROS, m.row())), KIND);
-        due("zeros of nothing", m.outcome(m.of(ZEROS, m.nothing())), NULL);
+        due("zeros of a row", kindOutcome(m, ZEROS, m.row()), KIND);
+        due("zeros of nothing", kindOutcome(m, ZEROS, m.nothing()), NULL);
+    }
+
+    /** Terms that stand at the same step as a row of an earlier try. */
+    private static void nothingLeftOfEarlierTries() {
+        part = "promise 2, earlier tries";
+        Maker m = new Maker();
+        int two = m.whole(2);
+        due("a row", m.outcome(m.of(SUM, m.of(TURNED, m.row(5, 6)))), HOLDS);
+        due("zeros", m.outcome(m.of(SUM, m.of(ZEROS, two))), FALSE);
+        due("nothing", m.outcome(m.of(SUM, m.nothing())), NULL);
+        due("a row", m.outcome(m.of(SUM, m.of(TURNED, m.row(5, 6)))), HOLDS);
+        due("an input of no type", m.outcome(m.of(SUM, m.input(0))), NULL);
+        m = new Maker();
+        m.x.property(1, 0, -1, -1, m.whole(0), -1, 0);
+        m.x.property(-1, 1, -1, -1, m.of(LENGTH, m.input(0)), -1, 0);
+        m.x.run(0, 1, 0);
+        due("inputs of another property", m.x.run(1, 1, 0), 0);
+        due("nothing", m.x.told(3), NULL);
+        m.x.small(0, 1);
+        due("inputs of another property", m.x.small(1, 1), 0);
+        due("nothing", m.x.told(3), NULL);
+        due("no input 0", m.x.counter(0, -1), NONE_SUCH);
     }
 
     private static void termsThatChoose() {
@@ -627,7 +656,39 @@ public final class PromiseTests {
         }
         wholeSmaller();
         rowSmaller();
+        laterSmaller();
         alikeOnly();
+    }
+
+    /** Input 0 stops at 1, with three candidates that hold ahead of those of input 1. */
+    private static void laterSmaller() {
+        boolean met = false;
+        for (int seed = 0; seed < 30; seed++) {
+            Maker m = new Maker();
+            PropertyTests x = m.x;
+            int fails = m.of(BOTH, m.of(BELOW, m.whole(0), m.input(0)), m.of(BELOW, m.whole(2), m.input(1)));
+            x.property(0, 0, -1, -1, m.of(LIKE, fails, m.whole(0)), -1, 0);
+            if (x.run(0, 48, seed) == 0) {
+                int first = drawnByTest(seed, x.told(4), 0, 0, -1);
+                int second = drawnByTest(seed, x.told(4), 1, 0, -1);
+                int tried = 6;
+                int taken = 0;
+                for (; first > 1; first /= 2) {
+                    tried += 2;
+                    taken++;
+                }
+                for (; second > 3; second = second / 2 >= 3 ? second / 2 : second - 1) {
+                    tried += second / 2 >= 3 ? 5 : 6;
+                    taken++;
+                    met = true;
+                }
+                due("tried", x.told(5), tried);
+                due("taken", x.told(6), taken);
+                due("input 0", x.counter(0, -1), 1);
+                due("input 1", x.counter(1, -1), 3);
+            }
+        }
+        due("one was made smaller behind another", met ? 1 : 0, 1);
     }
 
     /** Fails from limit on: v goes by halves and then by ones. */
