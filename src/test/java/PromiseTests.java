@@ -59,21 +59,29 @@ public final class PromiseTests {
     private static final class Maker {
         final PropertyTests x = new PropertyTests();
 
+        /** A term or property that a test rests on must be taken, or it would test something else. */
+        private int taken(int number) {
+            if (number < 0) {
+                due("a term or property of the test's own", number, 0);
+            }
+            return number;
+        }
+
         int input(int n) {
-            return x.term(INPUT, 0, 0, 0, n);
+            return taken(x.term(INPUT, 0, 0, 0, n));
         }
 
         int whole(int n) {
-            return x.term(WHOLE, 0, 0, 0, n);
+            return taken(x.term(WHOLE, 0, 0, 0, n));
         }
 
         int nothing() {
-            return x.term(NOTHING, 0, 0, 0, 0);
+            return taken(x.term(NOTHING, 0, 0, 0, 0));
         }
 
         int of(int what, int... parts) {
             int[] p = Arrays.copyOf(parts, 3);
-            return x.term(what, p[0], p[1], p[2], 0);
+            return taken(x.term(what, p[0], p[1], p[2], 0));
         }
 
         int row(int... ints) {
@@ -104,7 +112,7 @@ public final class PromiseTests {
 
         /** The outcome of one try of this body, without inputs, condition, label or expected throw. */
         int outcome(int body) {
-            int p = x.property(-1, -1, -1, -1, body, -1, 0);
+            int p = taken(x.property(-1, -1, -1, -1, body, -1, 0));
             x.small(p, 0);
             return x.told(3);
         }
