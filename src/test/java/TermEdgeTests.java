@@ -43,6 +43,7 @@ public final class TermEdgeTests {
         nothingAndKinds();
         firstWrongPartTells();
         workedInOrder();
+        whatAPartThrows();
         Check.end();
     }
 
@@ -581,7 +582,13 @@ public final class TermEdgeTests {
             parts[i] = partOfKind(s, kinds.charAt(i));
         }
         int made = s.of(what, parts);
-        return s.outcome(what >= Subject.ZEROS && what <= Subject.TURNED ? s.of(Subject.LENGTH, made) : made);
+        if (what < Subject.ZEROS || what > Subject.TURNED) {
+            return s.outcome(made);
+        }
+        // A row as a body is told as KIND, as a whole is by LENGTH: both ways, or a wrong one would hide.
+        int asBody = s.outcome(made);
+        int asPart = s.outcome(s.of(Subject.LENGTH, made));
+        return asPart % 9 == 0 && asBody == KIND || asPart == asBody ? asPart : -1;
     }
 
     private static void nothingAndKinds() {
@@ -657,5 +664,25 @@ public final class TermEdgeTests {
         Subject s = new Subject();
         Check.due("a throw ahead of a division by 0",
             s.outcome(s.of(Subject.REST, s.throwing(ROOM), s.whole(0))), ROOM);
+    }
+
+    private static void whatAPartThrows() {
+        Check.sentence("What a TERM comes to: its parts are worked");
+        for (int what = 3; what <= 20; what++) {
+            for (int i = 0; i < Subject.PART_COUNT[what]; i++) {
+                for (int k = NULL; k <= SPENT; k++) {
+                    Subject s = new Subject();
+                    int[] p = new int[Subject.PART_COUNT[what]];
+                    for (int other = 0; other < p.length; other++) {
+                        p[other] = partOfKind(s, KINDS[what].charAt(other));
+                    }
+                    p[i] = s.throwing(k);
+                    if (what == Subject.IF && i == 2) {
+                        p[0] = s.whole(0);
+                    }
+                    Check.due("part " + i + " of " + what + " throws", s.outcome(s.of(what, p)), k);
+                }
+            }
+        }
     }
 }

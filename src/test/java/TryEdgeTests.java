@@ -11,6 +11,7 @@ public final class TryEdgeTests {
     public static void main(String[] args) {
         eightProperties();
         types();
+        noneIsNothing();
         conditionIsATerm();
         bodyIsATerm();
         labelIsATerm();
@@ -71,6 +72,29 @@ public final class TryEdgeTests {
                 t[i] = good;
                 Check.due("type " + good + " of input " + i, s.property(t[0], t[1], t[2], -1, 0, -1, 0), good + 1);
                 Check.due("many of it", s.many(good + 1, 2), 25 * (good == -1 ? 1 : good == 0 ? 5 : 31));
+            }
+        }
+    }
+
+    private static void noneIsNothing() {
+        Check.sentence("-1 none: NOTHING");
+        for (int i = 0; i < 3; i++) {
+            for (int type = 0; type <= 1; type++) {
+                Subject s = new Subject();
+                int[] t = {type, type, type};
+                s.typed(t[0], t[1], t[2], s.whole(1));
+                t[i] = -1;
+                s.typed(t[0], t[1], t[2], s.input(i));
+                // What the inputs of another property were must not be seen.
+                Check.due("all small of another", s.small(0, 1), 1);
+                Check.due("all small", s.small(1, 1), 0);
+                Check.due("its outcome", s.told(3), NULL);
+                Check.due("no input " + i, s.counter(i, -1), Subject.NONE_SUCH);
+                Check.due("a run of another", s.run(0, 30, 1), 1);
+                Check.due("a run", s.run(1, 1, 2), 0);
+                Check.due("its outcome", s.told(3), NULL);
+                Check.due("no input " + i, s.counter(i, -1), Subject.NONE_SUCH);
+                Check.due("again", s.again(), NULL);
             }
         }
     }
