@@ -9,7 +9,9 @@ import java.nio.file.Files;
 import java.nio.file.Path;
 import java.util.ArrayList;
 import java.util.List;
+import java.util.Map;
 import java.util.Set;
+import java.util.TreeMap;
 import java.util.TreeSet;
 import java.util.regex.Matcher;
 import java.util.regex.Pattern;
@@ -18,6 +20,9 @@ import java.util.regex.Pattern;
 public final class LanguageTests {
     private static final String SOURCE = "src/main/java/PropertyTests.java";
     private static final int MOST_LINES = 60, MOST_CLASSES = 12, MOST_FIELDS = 20, MOST_PARAMETERS = 7;
+    private static final int MOST_DEEP = 8;
+    private static final Set<Class<?>> STATIC_TYPES = Set.of(int.class, long.class, boolean.class, char.class,
+        String.class, int[].class, long[].class, char[].class, byte[].class);
     private static int wrong = 0;
 
     private static void must(boolean holds, String what) {
@@ -38,7 +43,9 @@ public final class LanguageTests {
         }
         String text = withoutComments(Files.readString(Path.of(SOURCE)));
         words(text);
-        methodLengths(text);
+        Map<String, String> bodies = bodies(text);
+        methodLengths(bodies);
+        callDepth(bodies);
         room();
         System.out.println(wrong == 0 ? "the rules are kept" : wrong + " rules are broken");
         if (wrong != 0) {
@@ -93,6 +100,7 @@ public final class LanguageTests {
             boolean fixed = Modifier.isStatic(field.getModifiers());
             fields += fixed ? 0 : 1;
             must(!fixed || Modifier.isFinal(field.getModifiers()), field + " is static and not final");
+            must(!fixed || STATIC_TYPES.contains(field.getType()), field + " is static and of a type that is not allowed");
             must(!inside || hidden(field), field + " is seen outside");
         }
         must(fields <= MOST_FIELDS, one + " has too many fields");
@@ -133,20 +141,56 @@ public final class LanguageTests {
         }
     }
 
-    private static void methodLengths(String text) {
-        String[] lines = text.split("\n");
-        int begun = -1;
-        String indent = "";
-        for (int i = 0; i < lines.length; i++) {
-            Matcher head = Pattern.compile("^( +)(public|private)[^=;]*\\)\\s*\\{$").matcher(lines[i]);
-            if (head.find()) {
-                begun = i;
-                indent = head.group(1);
-            } else if (begun >= 0 && lines[i].equals(indent + "}")) {
-                must(i - begun < MOST_LINES, lines[begun].trim() + " is too long");
-                begun = -1;
-            }
+    /** The body of each method by its name; those of one name are one, which can only be longer and go deeper. */
+    private static Map<String, String> bodies(String text) {
+        Map<String, String> bodies = new TreeMap<>();
+        Matcher head = Pattern.compile("(?m)^( +)(?:public|private)[^=;\\n]*?(\\w+)\\([^=;{]*\\)\\s*\\{$").matcher(text);
+        while (head.find()) {
+            int end = text.indexOf("\n" + head.group(1) + "}\n", head.end());
+            must(end > 0, head.group(2) + " has no end");
+            bodies.merge(head.group(2), text.substring(head.end(), Math.max(end, head.end())), String::concat);
         }
+        for (Method method : PropertyTests.class.getDeclaredMethods()) {
+            must(bodies.containsKey(method.getName()), method.getName() + " was not found in the source");
+        }
+        return bodies;
+    }
+
+    private static void methodLengths(Map<String, String> bodies) {
+        for (String name : bodies.keySet()) {
+            must(bodies.get(name).split("\n").length < MOST_LINES, name + " is too long");
+        }
+    }
+
+    /** Rule 11. What calls itself, through others too, is open just once on a way down: no recursion counts. */
+    private static void callDepth(Map<String, String> bodies) {
+        Map<String, Set<String>> calls = new TreeMap<>();
+        for (String name : bodies.keySet()) {
+            Set<String> called = new TreeSet<>();
+            Matcher call = Pattern.compile("\\b(\\w+)\\(").matcher(bodies.get(name));
+            while (call.find()) {
+                if (bodies.containsKey(call.group(1))) {
+                    called.add(call.group(1));
+                }
+            }
+            calls.put(name, called);
+        }
+        for (String name : bodies.keySet()) {
+            int deep = deepest(calls, name, new TreeSet<>());
+            must(deep <= MOST_DEEP, name + " goes " + deep + " calls deep");
+        }
+    }
+
+    private static int deepest(Map<String, Set<String>> calls, String name, Set<String> open) {
+        if (!open.add(name)) {
+            return 0;
+        }
+        int most = 0;
+        for (String called : calls.get(name)) {
+            most = Math.max(most, deepest(calls, called, open));
+        }
+        open.remove(name);
+        return 1 + most;
     }
 
     /** Nothing may be made by a call, but in the constructor: the room of a run has an end. */
